@@ -4,6 +4,7 @@ public final class MarkTest {
         marksAnyNumber();
         atMostTwenty();
         keepsChangesFromTheOldestOn();
+        withoutPointsNoChangeIsTooMany();
         Check.finish();
     }
 
@@ -44,11 +45,21 @@ public final class MarkTest {
         shelf.mark(2);
         shelf.remove(0);
         Check.same("since the oldest", 2, shelf.count(2));
-        shelf.mark(3);
-        Check.same("points may lie at the full changes' end", 3, shelf.count(1));
         UndoShelf full = Check.shelfWithChanges(200);
         full.mark(1);
         Check.refused("a later point gives no room", Check.CONFLICT, full, () -> full.set(0, 2, 1, false));
         Check.same("points", 2, full.count(1));
+    }
+
+    private static void withoutPointsNoChangeIsTooMany() {
+        UndoShelf shelf = Check.shelfOf(1);
+        for (int i = 0; i < 250; i++) {
+            shelf.set(0, 2, i, false);
+        }
+        Check.same("changes kept", 0, shelf.count(2));
+        shelf.mark(1);
+        shelf.set(0, 2, 250, false);
+        shelf.back(1);
+        Check.same("what came before the point stays", 249, shelf.value(0, 2));
     }
 }
