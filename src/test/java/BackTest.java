@@ -1,15 +1,23 @@
 /** Promise 9. */
 public final class BackTest {
     private static final String START = "0 1000 0 | 1 1001 1 | 2 1002 2 | 3 1003 3 | 4 1004 0";
+    private static final int KINDS = 16;
 
     public static void main(String[] args) {
         undoesEachKind();
+        everyRunOfThreeChanges();
         undoesTheLatestFirst();
         bringsNoneBack();
         meansTheLatestOfThatName();
         pointsBehindGo();
         changesBeforeThePointStay();
         twoHundredChanges();
+        whereItWasIn120();
+        changedThenRemoved();
+        cameAndWentSince();
+        againAndAgain();
+        latestAndOldestOf20();
+        noPoints();
         missingNames();
         Check.finish();
     }
@@ -46,6 +54,49 @@ public final class BackTest {
         goBack("remove of the last", shelf);
         Check.same("removeAll", 2, shelf.removeAll(2, 0));
         goBack("removeAll", shelf);
+    }
+
+    // "all CHANGES since it was marked are undone, the latest first: a ROW that was removed is where it was"
+    private static void everyRunOfThreeChanges() {
+        for (int run = 0; run < KINDS * KINDS * KINDS; run++) {
+            UndoShelf shelf = Check.shelfOf(3);
+            shelf.set(1, 2, 0, true);
+            shelf.mark(1);
+            for (int left = run, step = 0; step < 3; left /= KINDS, step++) {
+                int kind = left % KINDS;
+                int key = 50 + step;
+                // What a change before it left no room or no row for is refused, and is then none.
+                Check.thrownBy(() -> changeOf(kind, key, shelf));
+            }
+            shelf.back(1);
+            Check.same("run " + run, "0 1000 0 | 1 1001 - | 2 1002 2", Check.table(shelf));
+            Check.same("run " + run + ", counts", "3 1 0 0 1", Check.counts(shelf));
+        }
+    }
+
+    private static void changeOf(int kind, int key, UndoShelf shelf) {
+        switch (kind) {
+            case 0:
+            case 1:
+            case 2:
+                shelf.remove(kind);
+                break;
+            case 3:
+                shelf.insert(key, key, 0, 7);
+                break;
+            case 4:
+                shelf.insert(1, 1002, 9, 3);
+                break;
+            case 5:
+                shelf.removeAll(2, 0);
+                break;
+            case 6:
+                shelf.set(1, 1, 0, true);
+                break;
+            default:
+                shelf.set((kind - 7) / 3, (kind - 7) % 3, key, false);
+                break;
+        }
     }
 
     private static void undoesTheLatestFirst() {
@@ -144,6 +195,68 @@ public final class BackTest {
         }
         shelf.remove(0);
         Check.same("there is room again", 1, shelf.count(2));
+    }
+
+    private static void whereItWasIn120() {
+        UndoShelf shelf = Check.shelfOf(120);
+        shelf.mark(1);
+        int[] removed = {119, 0, 60, 0, 115, 59};
+        for (int row : removed) {
+            shelf.remove(row);
+        }
+        shelf.back(1);
+        Check.same("table", Check.tableOf(120), Check.table(shelf));
+    }
+
+    private static void changedThenRemoved() {
+        UndoShelf shelf = marked();
+        for (int column = 0; column < 3; column++) {
+            shelf.set(2, column, 99, false);
+        }
+        shelf.set(2, 2, 0, true);
+        shelf.remove(2);
+        goBack("a row that was set and then removed", shelf);
+    }
+
+    private static void cameAndWentSince() {
+        UndoShelf shelf = marked();
+        shelf.insert(9, 9, 9, 7);
+        shelf.remove(5);
+        goBack("a row that came and went", shelf);
+        shelf.remove(1);
+        shelf.insert(1, 1001, 1, 7);
+        shelf.remove(4);
+        shelf.insert(1, 1001, 1, 7);
+        goBack("a row that went and came again", shelf);
+    }
+
+    // "it stays"
+    private static void againAndAgain() {
+        UndoShelf shelf = marked();
+        goBack("at once", shelf);
+        goBack("a second time", shelf);
+        for (int i = 0; i < 5; i++) {
+            shelf.remove(i);
+            goBack("time " + i, shelf);
+        }
+    }
+
+    private static void latestAndOldestOf20() {
+        UndoShelf shelf = Check.shelfWithPoints(20);
+        shelf.back(19);
+        Check.same("the latest", "1 20 19 0 0", Check.counts(shelf));
+        Check.same("what stood there", "0 1000 118", Check.table(shelf));
+        shelf.back(0);
+        Check.same("the oldest", "1 1 0 0 0", Check.counts(shelf));
+        Check.same("what stood there", "0 1000 0", Check.table(shelf));
+    }
+
+    private static void noPoints() {
+        UndoShelf shelf = Check.shelfOf(1);
+        Check.refused("none yet", Check.MISSING, shelf, () -> shelf.back(0));
+        shelf.mark(0);
+        shelf.release(0);
+        Check.refused("none any more", Check.MISSING, shelf, () -> shelf.back(0));
     }
 
     private static void missingNames() {

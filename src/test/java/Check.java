@@ -6,6 +6,8 @@ final class Check {
     static final Class<?> MISSING = NoSuchElementException.class;
     static final Class<?> CONFLICT = IllegalStateException.class;
 
+    static final int[] EDGES = {Integer.MIN_VALUE, -1, 0, 1, Integer.MAX_VALUE};
+
     interface Call {
         void run();
     }
@@ -27,6 +29,11 @@ final class Check {
         String before = counts(shelf) + " " + table(shelf);
         same(what, due, thrownBy(call));
         same(what + " changed something", before, counts(shelf) + " " + table(shelf));
+    }
+
+    /** The call throws just this class; what it left is looked at elsewhere. */
+    static void thrown(String what, Class<?> due, Call call) {
+        same(what, due, thrownBy(call));
     }
 
     /** As refused, for shelves so full that reading all of them would go beyond the 512 calls. */
@@ -83,13 +90,38 @@ final class Check {
         return shelf;
     }
 
+    /** What table tells of shelfOf(n). */
+    static String tableOf(int n) {
+        StringBuilder text = new StringBuilder();
+        for (int i = 0; i < n; i++) {
+            text.append(i == 0 ? "" : " | ").append(i).append(' ').append(1000 + i).append(' ').append(i % 4);
+        }
+        return text.toString();
+    }
+
+    /** Sets column 2 of row 0 so many times. */
+    static void setTimes(UndoShelf shelf, int n) {
+        for (int i = 0; i < n; i++) {
+            shelf.set(0, 2, i, false);
+        }
+    }
+
+    /** A shelf with one row and the points 0 .. n - 1, behind each of which column 2 is set to 100 and its number. */
+    static UndoShelf shelfWithPoints(int n) {
+        UndoShelf shelf = shelfOf(1);
+        for (int name = 0; name < n; name++) {
+            shelf.mark(name);
+            shelf.set(0, 2, 100 + name, false);
+            same("points", name + 1, shelf.count(1));
+        }
+        return shelf;
+    }
+
     /** A shelf with one row and one point, 0, since which n changes are kept. */
     static UndoShelf shelfWithChanges(int n) {
         UndoShelf shelf = shelfOf(1);
         shelf.mark(0);
-        for (int i = 0; i < n; i++) {
-            shelf.set(0, 2, i, false);
-        }
+        setTimes(shelf, n);
         same("changes kept", n, shelf.count(2));
         return shelf;
     }

@@ -1,9 +1,32 @@
 /** Promise 11. */
 public final class CountTest {
     public static void main(String[] args) {
+        allNought();
         countsEach();
+        allFull();
         elseMinusOne();
         Check.finish();
+    }
+
+    private static void allNought() {
+        UndoShelf shelf = new UndoShelf();
+        for (int what = 0; what <= 4; what++) {
+            Check.same("count " + what, 0, shelf.count(what));
+        }
+    }
+
+    private static void allFull() {
+        UndoShelf shelf = new UndoShelf();
+        for (int row = 0; row < 120; row++) {
+            shelf.insert(row, 0, 0, 1);
+        }
+        for (int name = 0; name < 20; name++) {
+            shelf.mark(name);
+        }
+        for (int i = 0; i < 200; i++) {
+            shelf.set(0, 1, 0, true);
+        }
+        Check.same("counts", "120 20 200 120 120", Check.counts(shelf));
     }
 
     private static void countsEach() {

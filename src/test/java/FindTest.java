@@ -2,6 +2,8 @@
 public final class FindTest {
     public static void main(String[] args) {
         findsByEitherKey();
+        inNoRows();
+        firstAndLastOf120();
         wrongInputs();
         Check.finish();
     }
@@ -26,6 +28,26 @@ public final class FindTest {
         Check.same("behind it", 0, shelf.find(0, 20));
         shelf.remove(2);
         Check.same("the last removed", -1, shelf.find(1, -1));
+    }
+
+    private static void inNoRows() {
+        UndoShelf shelf = new UndoShelf();
+        for (int key : Check.EDGES) {
+            Check.same("column 0", -1, shelf.find(0, key));
+            Check.same("column 1", -1, shelf.find(1, key));
+        }
+    }
+
+    private static void firstAndLastOf120() {
+        UndoShelf shelf = Check.shelfOf(120);
+        Check.same("first, column 0", 0, shelf.find(0, 0));
+        Check.same("first, column 1", 0, shelf.find(1, 1000));
+        Check.same("last, column 0", 119, shelf.find(0, 119));
+        Check.same("last, column 1", 119, shelf.find(1, 1119));
+        Check.same("one below, column 0", -1, shelf.find(0, -1));
+        Check.same("one above, column 0", -1, shelf.find(0, 120));
+        Check.same("one below, column 1", -1, shelf.find(1, 999));
+        Check.same("one above, column 1", -1, shelf.find(1, 1120));
     }
 
     private static void wrongInputs() {

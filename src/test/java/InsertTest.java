@@ -3,7 +3,9 @@ public final class InsertTest {
     public static void main(String[] args) {
         goesToTheEnd();
         noneWhereHasIsNotSet();
+        eachHas();
         badHas();
+        eachBitBeyond();
         keysThatAreThere();
         fullTable();
         fullChanges();
@@ -31,6 +33,26 @@ public final class InsertTest {
         Check.same("none is not 0", -1, shelf.find(1, 0));
         Check.refused("none in column 0", Check.CONFLICT, shelf, () -> shelf.insert(5, 5, 5, 6));
         Check.refused("all none", Check.CONFLICT, shelf, () -> shelf.insert(5, 5, 5, 0));
+    }
+
+    // "none where has isn't set (bits 0 .. 2 of has, ...)"
+    private static void eachHas() {
+        String[] due = {"5 - -", "5 6 -", "5 - 7", "5 6 7"};
+        for (int has = 1; has < 8; has += 2) {
+            UndoShelf shelf = new UndoShelf();
+            Check.same("has " + has, 0, shelf.insert(5, 6, 7, has));
+            Check.same("has " + has, due[has / 2], Check.table(shelf));
+        }
+    }
+
+    // "others: bad"
+    private static void eachBitBeyond() {
+        UndoShelf shelf = Check.shelfOf(1);
+        for (int bit = 3; bit < 32; bit++) {
+            int has = 1 << bit | 7;
+            Check.thrown("bit " + bit, Check.BAD, () -> shelf.insert(50, 51, 52, has));
+        }
+        Check.same("rows", 1, shelf.count(0));
     }
 
     private static void badHas() {

@@ -5,6 +5,8 @@ public final class ReleaseTest {
         thePointAndThoseBehindGo();
         olderPointsKeepTheirChanges();
         withoutPointsNoneAreKept();
+        noPoints();
+        latestAndOldestOf20();
         missingNames();
         Check.finish();
     }
@@ -62,6 +64,23 @@ public final class ReleaseTest {
         Check.same("from the new point on", 1, shelf.count(2));
         shelf.back(7);
         Check.same("table", "0 1000 1", Check.table(shelf));
+    }
+
+    private static void noPoints() {
+        UndoShelf shelf = Check.shelfOf(1);
+        Check.refused("none yet", Check.MISSING, shelf, () -> shelf.release(0));
+        shelf.mark(0);
+        shelf.release(0);
+        Check.refused("none any more", Check.MISSING, shelf, () -> shelf.release(0));
+    }
+
+    private static void latestAndOldestOf20() {
+        UndoShelf shelf = Check.shelfWithPoints(20);
+        shelf.release(19);
+        Check.same("the latest", "1 19 20 0 0", Check.counts(shelf));
+        shelf.release(0);
+        Check.same("the oldest", "1 0 0 0 0", Check.counts(shelf));
+        Check.same("changes stay", "0 1000 119", Check.table(shelf));
     }
 
     private static void missingNames() {

@@ -3,6 +3,10 @@ public final class RemoveAllTest {
     public static void main(String[] args) {
         removesAllWithTheValue();
         noneIsNoValue();
+        fromNoRows();
+        noRowHasIt();
+        allOfAFullTable();
+        anyInt();
         wrongInputs();
         fullChanges();
         allOrNone();
@@ -41,6 +45,47 @@ public final class RemoveAllTest {
         Check.same("5 in column 2", 0, shelf.removeAll(2, 5));
         Check.same("0 in column 2", 1, shelf.removeAll(2, 0));
         Check.same("table", "1 - - | 3 - -", Check.table(shelf));
+    }
+
+    private static void fromNoRows() {
+        UndoShelf shelf = new UndoShelf();
+        for (int column = 0; column < 3; column++) {
+            Check.same("column " + column, 0, shelf.removeAll(column, 0));
+        }
+    }
+
+    private static void noRowHasIt() {
+        UndoShelf shelf = Check.shelfOf(3);
+        Check.same("a value of column 1 in column 0", 0, shelf.removeAll(0, 1000));
+        Check.same("a value of column 0 in column 1", 0, shelf.removeAll(1, 0));
+        Check.same("a value of column 1 in column 2", 0, shelf.removeAll(2, 1000));
+        Check.same("table", Check.tableOf(3), Check.table(shelf));
+    }
+
+    private static void allOfAFullTable() {
+        UndoShelf shelf = new UndoShelf();
+        for (int row = 0; row < 120; row++) {
+            shelf.insert(row, row, 5, 7);
+        }
+        shelf.mark(1);
+        Check.same("removed", 120, shelf.removeAll(2, 5));
+        Check.same("counts", "0 1 120 0 0", Check.counts(shelf));
+        shelf.back(1);
+        for (int row = 0; row < 120; row++) {
+            Check.same("where it was", row, shelf.find(0, row));
+        }
+    }
+
+    private static void anyInt() {
+        UndoShelf shelf = new UndoShelf();
+        int[] ints = Check.EDGES;
+        for (int v : ints) {
+            shelf.insert(v, v, v, 7);
+        }
+        for (int i = 0; i < ints.length; i++) {
+            Check.same("removeAll of " + ints[i], 1, shelf.removeAll(i % 3, ints[i]));
+            Check.same("rows", ints.length - 1 - i, shelf.count(0));
+        }
     }
 
     private static void wrongInputs() {

@@ -4,6 +4,8 @@ public final class RemoveTest {
         removesFirstMiddleLast();
         wrongInputs();
         fromAFullTable();
+        theOnlyRow();
+        firstOfAllUntilEmpty();
         fullChanges();
         Check.finish();
     }
@@ -43,6 +45,25 @@ public final class RemoveTest {
         shelf.back(1);
         Check.same("first again", 0, shelf.find(0, 0));
         Check.same("last again", 119, shelf.find(0, 119));
+    }
+
+    private static void theOnlyRow() {
+        UndoShelf shelf = Check.shelfOf(1);
+        Check.refused("row -1", Check.MISSING, shelf, () -> shelf.remove(-1));
+        Check.refused("row 1", Check.MISSING, shelf, () -> shelf.remove(1));
+        shelf.remove(0);
+        Check.refused("it went", Check.MISSING, shelf, () -> shelf.remove(0));
+    }
+
+    // "those behind it have lower numbers then"
+    private static void firstOfAllUntilEmpty() {
+        UndoShelf shelf = Check.shelfOf(120);
+        for (int gone = 1; gone <= 119; gone++) {
+            shelf.remove(0);
+            Check.same("the row behind", gone, shelf.value(0, 0));
+            Check.same("the last row", 119 - gone, shelf.find(0, 119));
+        }
+        Check.same("rows", 1, shelf.count(0));
     }
 
     private static void fullChanges() {

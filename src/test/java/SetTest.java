@@ -3,6 +3,10 @@ public final class SetTest {
     public static void main(String[] args) {
         setsValues();
         setsNone();
+        noneWhereNoneIs();
+        noneLooksAtNoKey();
+        firstAndLastRow();
+        noRowAtAll();
         wrongInputs();
         keysThatAreThere();
         isAChangeEachTime();
@@ -32,6 +36,43 @@ public final class SetTest {
         shelf.set(1, 2, 0, false);
         Check.same("table again", "0 - 0 | 1 1000 0", Check.table(shelf));
         Check.refused("none in column 0", Check.CONFLICT, shelf, () -> shelf.set(0, 0, 5, true));
+    }
+
+    private static void noneWhereNoneIs() {
+        UndoShelf shelf = new UndoShelf();
+        shelf.insert(1, 0, 0, 1);
+        shelf.set(0, 1, 5, true);
+        shelf.set(0, 2, 5, true);
+        Check.same("table", "1 - -", Check.table(shelf));
+        shelf.set(0, 1, 0, false);
+        shelf.set(0, 2, 0, false);
+        Check.same("an int where none was", "1 0 0", Check.table(shelf));
+    }
+
+    private static void noneLooksAtNoKey() {
+        UndoShelf shelf = Check.shelfOf(2);
+        shelf.set(1, 1, 1000, true);
+        Check.same("v is another row's key", "0 1000 0 | 1 - 1", Check.table(shelf));
+    }
+
+    private static void firstAndLastRow() {
+        UndoShelf shelf = Check.shelfOf(120);
+        shelf.set(0, 0, 500, false);
+        shelf.set(119, 0, 501, false);
+        Check.same("first", 0, shelf.find(0, 500));
+        Check.same("last", 119, shelf.find(0, 501));
+        Check.refusedOnFull("row -1", Check.MISSING, shelf, () -> shelf.set(-1, 0, 502, false));
+        Check.refusedOnFull("row 120", Check.MISSING, shelf, () -> shelf.set(120, 0, 502, false));
+        Check.same("neither was set", -1, shelf.find(0, 502));
+    }
+
+    private static void noRowAtAll() {
+        UndoShelf shelf = new UndoShelf();
+        for (int column = 0; column < 3; column++) {
+            int at = column;
+            Check.refused("column " + column, Check.MISSING, shelf, () -> shelf.set(0, at, 1, false));
+            Check.refused("none in column " + column, Check.MISSING, shelf, () -> shelf.set(0, at, 1, true));
+        }
     }
 
     private static void wrongInputs() {

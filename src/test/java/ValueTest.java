@@ -2,6 +2,8 @@
 public final class ValueTest {
     public static void main(String[] args) {
         answersTheInt();
+        inNoRows();
+        firstAndLastOf120();
         wrongInputs();
         Check.finish();
     }
@@ -19,6 +21,23 @@ public final class ValueTest {
         Check.refused("none in column 2", Check.MISSING, shelf, () -> shelf.value(2, 2));
         shelf.remove(2);
         Check.refused("a removed row", Check.MISSING, shelf, () -> shelf.value(2, 0));
+    }
+
+    private static void inNoRows() {
+        UndoShelf shelf = new UndoShelf();
+        for (int column = 0; column < 3; column++) {
+            int at = column;
+            Check.refused("column " + column, Check.MISSING, shelf, () -> shelf.value(0, at));
+        }
+        Check.refused("bad comes first", Check.BAD, shelf, () -> shelf.value(0, 3));
+    }
+
+    private static void firstAndLastOf120() {
+        UndoShelf shelf = Check.shelfOf(120);
+        Check.same("first", 1000, shelf.value(0, 1));
+        Check.same("last", 1119, shelf.value(119, 1));
+        Check.refusedOnFull("row -1", Check.MISSING, shelf, () -> shelf.value(-1, 1));
+        Check.refusedOnFull("row 120", Check.MISSING, shelf, () -> shelf.value(120, 1));
     }
 
     private static void wrongInputs() {
